@@ -18,7 +18,7 @@ public final class PercolateSets {
 
     /** ALL as a set of bits: a query has 60 different words at most, so no real set has all 64. */
     private static final long ALL = -1L;
-    private static final int COST_OF_ALL = Integer.MAX_VALUE;
+    private static final int COST_OF_ALL = 1000000;
     private static final int NO_BIT = -1;
 
     private final Tape tape = new Tape();
@@ -692,7 +692,6 @@ public final class PercolateSets {
             size++;
         }
 
-        @Override
         boolean holds(Item item, int unit) {
             int holding = 0;
             for (Part part = first; part != null && holding < least; part = part.next) {
@@ -703,7 +702,6 @@ public final class PercolateSets {
             return holding >= least;
         }
 
-        @Override
         void mark(Item item, int unit, boolean[] marks) {
             for (Part part = first; part != null; part = part.next) {
                 if (part.holds(item, unit)) {
@@ -712,7 +710,6 @@ public final class PercolateSets {
             }
         }
 
-        @Override
         long bitsNeeded(Term[] terms, boolean turned) {
             int must = turned ? size - least + 1 : least;
             if (must <= 0) {
@@ -763,16 +760,13 @@ public final class PercolateSets {
             this.inner = inner;
         }
 
-        @Override
         boolean holds(Item item, int unit) {
             return !inner.holds(item, unit);
         }
 
-        @Override
         void mark(Item item, int unit, boolean[] marks) {
         }
 
-        @Override
         long bitsNeeded(Term[] terms, boolean turned) {
             return inner.bitsNeeded(terms, !turned);
         }
@@ -788,7 +782,6 @@ public final class PercolateSets {
             this.inner = inner;
         }
 
-        @Override
         boolean holds(Item item, int unit) {
             for (int u = unit + 1; u < item.units; u++) {
                 if (item.isPart(u, unit, field) && inner.holds(item, u)) {
@@ -798,7 +791,6 @@ public final class PercolateSets {
             return false;
         }
 
-        @Override
         void mark(Item item, int unit, boolean[] marks) {
             for (int u = unit + 1; u < item.units; u++) {
                 if (item.isPart(u, unit, field) && inner.holds(item, u)) {
@@ -807,7 +799,6 @@ public final class PercolateSets {
             }
         }
 
-        @Override
         long bitsNeeded(Term[] terms, boolean turned) {
             return turned ? ALL : inner.bitsNeeded(terms, false);
         }
@@ -832,28 +823,29 @@ public final class PercolateSets {
             this.earliest = new int[terms.length];
         }
 
-        @Override
         boolean holds(Item item, int unit) {
             for (int f = 0; f < FIELDS; f++) {
-                if ((field == ANY_FIELD || field == f) && holdsInRow(item, item.rowStart(unit, f), item.rowEnd(unit, f))) {
+                if (asks(f) && holdsInRow(item, item.rowStart(unit, f), item.rowEnd(unit, f))) {
                     return true;
                 }
             }
             return false;
         }
 
-        @Override
         void mark(Item item, int unit, boolean[] marks) {
             for (int f = 0; f < FIELDS; f++) {
-                if (field == ANY_FIELD || field == f) {
+                if (asks(f)) {
                     markRow(item, item.rowStart(unit, f), item.rowEnd(unit, f), marks);
                 }
             }
         }
 
-        @Override
         long bitsNeeded(Term[] all, boolean turned) {
             return turned || bit == NO_BIT ? ALL : 1L << bit;
+        }
+
+        private boolean asks(int f) {
+            return field == ANY_FIELD || field == f;
         }
 
         private boolean holdsInRow(Item item, int from, int to) {
@@ -923,11 +915,10 @@ public final class PercolateSets {
         final int cost;
         final Term[] terms;
 
-        Query(int serial, int leaves, Part tree, Term[] known) {
+        Query(int serial, int leaves, Part tree, Term[] known, long bits) {
             this.serial = serial;
             this.leaves = leaves;
             this.tree = tree;
-            long bits = tree.bitsNeeded(known, false);
             this.needless = bits == ALL;
             this.cost = Term.costOf(known, bits);
             this.terms = inOrder(known, needless ? 0 : bits);
@@ -1000,7 +991,7 @@ public final class PercolateSets {
             if (tree == null || !tape.requireEnd()) {
                 return null;
             }
-            return new Query(serial, leaves, tree, known);
+            return new Query(serial, leaves, tree, known, tree.bitsNeeded(known, false));
         }
 
         private Part readEither(int depth) {
@@ -1165,6 +1156,9 @@ public final class PercolateSets {
 
         /** Each leaf asks for one bit at most, so there is always room for its term. */
         private int bitOf(Term term) {
+            if (term == null) {
+                return NO_BIT;
+            }
             for (int i = 0; i < knownCount; i++) {
                 if (term.isSame(known[i])) {
                     return i;
