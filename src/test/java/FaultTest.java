@@ -77,6 +77,7 @@ final class FaultTest {
         bad("a||b", 1, 2);
         bad("a&|b", 1, 2);
         bad("|a", 1, 0);
+        bad("&a", 1, 0);
         bad("a!b", 1, 1);
         bad("a(b)", 1, 1);
         bad("a**", 1, 2);
@@ -161,12 +162,14 @@ final class FaultTest {
     private static void longWordsAndNumbers() {
         good("abcdefghijkl");
         bad("abcdefghijklm", 1, 12);
+        bad("abcdefghijkl0", 1, 12);
         bad("a|abcdefghijklm", 1, 14);
         bad("\"abcdefghijkl 0123456789abc\"", 1, 26);
         good("[1234..1234]");
         bad("[12345..3]", 1, 5);
         bad("[00001..3]", 1, 5);
         bad("[1..12345]", 1, 8);
+        bad("[1..00000]", 1, 8);
     }
 
     private static void tooManyLeaves() {

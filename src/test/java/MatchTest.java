@@ -39,6 +39,8 @@ final class MatchTest {
         matches("abcdefghijkl", "a: abcdefghijkl;", 1);
         matches("abcdefghijkl", "a: abcdefghijk;", 0);
         matches("a", "a: a0;", 0);
+        matches("abcdefghijk", "a: abcdefghijk0;", 0);
+        matches("abcdefghijka", "a: abcdefghijkb;", 0);
     }
 
     private static void beginnings() {

@@ -69,6 +69,8 @@ final class ObjectTest {
         bad("a{;}", 1, 2);
         bad("a:\u00e9;", 1, 2);
         bad("a:abcdefghijklm;", 1, 14);
+        bad("a:abcdefghijkla:x;", 1, 14);
+        bad("a:abcdefghijkl0;", 1, 14);
         bad("a:x;\u0000", 1, 4);
     }
 
