@@ -68,7 +68,8 @@ public final class PercolateSets {
     }
 
     public int save() {
-        Query read = readQuery();
+        Query read = queryReader.readQuery(latestSerial + 1);
+        endReading();
         if (read == null) {
             return faultAnswer();
         }
@@ -84,7 +85,8 @@ public final class PercolateSets {
         if (queryOf(q) == null) {
             return BAD;
         }
-        Query read = readQuery();
+        Query read = queryReader.readQuery(latestSerial + 1);
+        endReading();
         if (read == null) {
             return faultAnswer();
         }
@@ -326,12 +328,6 @@ public final class PercolateSets {
         return -1;
     }
 
-    private Query readQuery() {
-        Query read = queryReader.readQuery(latestSerial + 1);
-        endReading();
-        return read;
-    }
-
     private void keep(int q, Query read) {
         queries[q] = read;
         latestSerial = read.serial;
@@ -487,16 +483,13 @@ public final class PercolateSets {
             return length <= mostBytes || failAt(TOO_MANY, mostBytes);
         }
 
-        private int byteAt(int place) {
-            return place >= 0 && place < length && place < ROOM ? bytes[place] & 255 : END;
-        }
-
         int here() {
-            return byteAt(at);
+            return at >= 0 && at < length && at < ROOM ? bytes[at] & 255 : END;
         }
 
         int behind() {
-            return byteAt(at + 1);
+            int next = at + 1;
+            return next >= 0 && next < length && next < ROOM ? bytes[next] & 255 : END;
         }
 
         void skipBlanks() {
