@@ -89,6 +89,61 @@ final class Check {
         return all.toString();
     }
 
+    /** A QUERY without a FAULT, by save() and by change(). */
+    void goodQuery(String text) {
+        PercolateSets sets = new PercolateSets();
+        due("save of " + text, save(sets, text), 0);
+        due("place of " + text, sets.place(), PercolateSets.NONE);
+        due("tape behind " + text, sets.count(8), 0);
+        due("change to " + text, change(sets, 0, text), 2);
+        due("place of change to " + text, sets.place(), PercolateSets.NONE);
+        due("tape behind change to " + text, sets.count(8), 0);
+    }
+
+    /** A QUERY with a FAULT, by save() and by change(); all but the tape and the place stays as it was. */
+    void badQuery(String text, int kind, int place) {
+        PercolateSets sets = new PercolateSets();
+        due("save of " + text, save(sets, text), -10 - kind);
+        due("place of " + text, sets.place(), place);
+        due("tape behind " + text, sets.count(8), 0);
+        due("serial behind " + text, sets.count(9), 0);
+        due("queries behind " + text, sets.count(0), 0);
+        save(sets, "before");
+        due("change to " + text, change(sets, 0, text), -10 - kind);
+        due("place of change to " + text, sets.place(), place);
+        due("tape behind change to " + text, sets.count(8), 0);
+        text("the former one stays", neededOf(sets, 0), "before");
+        due("its serial stays", sets.query(0, 0), 1);
+        due("serial behind change", sets.count(9), 1);
+    }
+
+    /** An OBJECT without a FAULT. */
+    void goodObject(String text, int units, int words) {
+        PercolateSets sets = new PercolateSets();
+        due("object of " + text, object(sets, 11, text), units);
+        due("place of " + text, sets.place(), PercolateSets.NONE);
+        due("tape behind " + text, sets.count(8), 0);
+        due("units of " + text, sets.about(11, 1), units);
+        due("words of " + text, sets.about(11, 2), words);
+    }
+
+    /** An OBJECT with a FAULT, under a free key and under one that has an OBJECT, which stays. */
+    void badObject(String text, int kind, int place) {
+        PercolateSets sets = new PercolateSets();
+        due("object of " + text, object(sets, 0, text), -10 - kind);
+        due("place of " + text, sets.place(), place);
+        due("tape behind " + text, sets.count(8), 0);
+        due("version behind " + text, sets.count(10), 0);
+        due("objects behind " + text, sets.count(2), 0);
+        object(sets, 0, "a{ b: two words; }");
+        due("object instead: " + text, object(sets, 0, text), -10 - kind);
+        due("its place: " + text, sets.place(), place);
+        due("the former version stays", sets.about(0, 0), 1);
+        due("the former units stay", sets.about(0, 1), 2);
+        due("the former words stay", sets.about(0, 2), 2);
+        due("version behind it", sets.count(10), 1);
+    }
+
     void text(String call, String got, String want) {
         if (!got.equals(want)) {
             System.out.println(call + ": \"" + got + "\", due is \"" + want + "\"");

@@ -19,25 +19,11 @@ final class FaultTest {
     }
 
     private static void good(String text) {
-        PercolateSets sets = new PercolateSets();
-        check.due("save of " + text, Check.save(sets, text), 0);
-        check.due("place of " + text, sets.place(), PercolateSets.NONE);
-        check.due("tape behind " + text, sets.count(8), 0);
+        check.goodQuery(text);
     }
 
     private static void bad(String text, int kind, int place) {
-        PercolateSets sets = new PercolateSets();
-        check.due("save of " + text, Check.save(sets, text), -10 - kind);
-        check.due("place of " + text, sets.place(), place);
-        check.due("tape behind " + text, sets.count(8), 0);
-        check.due("serial behind " + text, sets.count(9), 0);
-        check.due("queries behind " + text, sets.count(0), 0);
-        Check.save(sets, "before");
-        check.due("change to " + text, Check.change(sets, 0, text), -10 - kind);
-        check.due("place of change to " + text, sets.place(), place);
-        check.text("the former one stays", Check.neededOf(sets, 0), "before");
-        check.due("its serial stays", sets.query(0, 0), 1);
-        check.due("serial behind change", sets.count(9), 1);
+        check.badQuery(text, kind, place);
     }
 
     private static void goodOnes() {

@@ -14,21 +14,11 @@ final class ObjectTest {
     }
 
     private static void good(String text, int units, int words) {
-        PercolateSets sets = new PercolateSets();
-        check.due("object of " + text, Check.object(sets, 11, text), units);
-        check.due("place of " + text, sets.place(), PercolateSets.NONE);
-        check.due("tape behind " + text, sets.count(8), 0);
-        check.due("units of " + text, sets.about(11, 1), units);
-        check.due("words of " + text, sets.about(11, 2), words);
+        check.goodObject(text, units, words);
     }
 
     private static void bad(String text, int kind, int place) {
-        PercolateSets sets = new PercolateSets();
-        check.due("object of " + text, Check.object(sets, 0, text), -10 - kind);
-        check.due("place of " + text, sets.place(), place);
-        check.due("tape behind " + text, sets.count(8), 0);
-        check.due("version behind " + text, sets.count(10), 0);
-        check.due("objects behind " + text, sets.count(2), 0);
+        check.badObject(text, kind, place);
     }
 
     private static void goodOnes() {
