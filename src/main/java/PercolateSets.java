@@ -1179,7 +1179,9 @@ public final class PercolateSets {
                 return null;
             }
             Term[] row = new Term[words];
-            System.arraycopy(together, 0, row, 0, words);
+            for (int w = 0; w < words && w < MOST_TOGETHER; w++) {
+                row[w] = together[w];
+            }
             return new Leaf(field, row, slack, bitOf(lightestOf(row)));
         }
 

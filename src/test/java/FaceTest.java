@@ -18,7 +18,10 @@ final class FaceTest {
         face();
         membersAreHidden();
         classesInside();
-        source(Files.readString(Path.of("src/main/java/PercolateSets.java")));
+        String code = withoutComments(Files.readString(Path.of("src/main/java/PercolateSets.java")));
+        bannedWords(code);
+        libraryOverNumbersAlone(code);
+        methodsAreShort(code);
         check.end();
     }
 
@@ -51,6 +54,7 @@ final class FaceTest {
         for (Class<?> inside : PercolateSets.class.getDeclaredClasses()) {
             for (Method method : inside.getDeclaredMethods()) {
                 privateNames.add(method.getName());
+                check.holds(method + " has seven parameters at most", method.getParameterCount() <= 7);
             }
         }
         privateNames.retainAll(publicNames);
@@ -81,10 +85,14 @@ final class FaceTest {
         }
     }
 
-    private static void source(String text) {
-        String code = text.replaceAll("(?s)/\\*.*?\\*/", "").replaceAll("//[^\n]*", "");
+    private static String withoutComments(String text) {
+        return text.replaceAll("(?s)/\\*.*?\\*/", "").replaceAll("//[^\n]*", "");
+    }
+
+    private static void bannedWords(String code) {
         String[] banned = {"\\bthrow\\b", "\\bthrows\\b", "\\btry\\b", "\\bcatch\\b", "\\bsynchronized\\b", "\\bassert\\b",
-            "->", "::", "\\bpackage\\b", "\\bSystem\\.(?!arraycopy)", "Exact\\b", "\\bequals\\b", "\\bhashCode\\b", "@"};
+            "->", "::", "\\bpackage\\b", "\\bSystem\\.(?!arraycopy\\b)", "\\bArrays\\.(?!(copyOf|copyOfRange|fill)\\b)",
+            "Exact\\b", "\\bequals\\b", "\\bhashCode\\b", "@", "\\bObject\\b", "\\bException\\b"};
         for (String word : banned) {
             Matcher found = Pattern.compile(word).matcher(code);
             check.holds("the program has no " + word, !found.find());
@@ -93,6 +101,23 @@ final class FaceTest {
         while (imports.find()) {
             check.text("import", imports.group(1), "java.util.Arrays");
         }
+    }
+
+    /** Rule 4: the library's copies and fills are for arrays of numbers. */
+    private static void libraryOverNumbersAlone(String code) {
+        Set<String> others = new TreeSet<>();
+        Matcher declared = Pattern.compile("\\b([A-Z]\\w*|boolean)\\[\\] (\\w+)").matcher(code);
+        while (declared.find()) {
+            others.add(declared.group(2));
+        }
+        check.holds("arrays of queries were seen", others.contains("queries"));
+        Matcher calls = Pattern.compile("\\b(System\\.arraycopy|Arrays\\.\\w+)\\((\\w+\\.)?(\\w+)").matcher(code);
+        while (calls.find()) {
+            check.holds(calls.group() + " is over numbers", !others.contains(calls.group(3)));
+        }
+    }
+
+    private static void methodsAreShort(String code) {
         int from = 0;
         String[] lines = code.split("\n");
         for (int i = 0; i < lines.length; i++) {
